@@ -2,7 +2,8 @@ import java.util.Random;
 
 /** Long runs of calls, drawn from fixed seeds, held against the plain model. */
 public final class ModelTests {
-    private static final int[] ODD = {-1, -2, 0, 1, 7, 8, 9, 10, 17, 18, 44, 60, 61, Integer.MIN_VALUE, Integer.MAX_VALUE};
+    private static final int[] ODD =
+        {-1, -2, 0, 1, 7, 8, 9, 10, 17, 18, 44, 60, 61, Integer.MIN_VALUE, Integer.MAX_VALUE};
 
     private final Random random;
     private final WorseStile x = new WorseStile();

@@ -37,10 +37,13 @@ public final class PromiseTests {
         forget();
         days();
         daysFromWhatIs();
+        daysDrawPeople();
+        daysDrawThings();
         image();
         restore();
         count();
         digest();
+        digestOfMost();
         noStile();
         Due.end("PromiseTests");
     }
@@ -197,6 +200,19 @@ public final class PromiseTests {
         due("what he carried last is gone", x.person(0, 2), NONE);
         due("its weight, too", x.person(0, 3), NONE);
         due("he may carry all", x.person(0, 5), 31);
+        WorseStile more = Due.with("t991,t991,t991,t991,t991,t991,t991,t991;4");
+        for (int person = 0; person < 4; person++) {
+            more.round(person, NONE);
+            more.carry(person, person);
+        }
+        Due.read(more, "t120,t341;1");
+        int[] fewer = {2, 1, 1, 0, 0, 0, 4, 6, 1, 0, 0, 2};
+        for (int what = 0; what <= 11; what++) {
+            due("fewer then: count(" + what + ")", more.count(what), fewer[what]);
+        }
+        due("fewer then: width(0)", more.width(0), 1);
+        due("fewer then: thing(2, 0)", more.thing(2, 0), UNKNOWN);
+        due("fewer then: person(1, 0)", more.person(1, 0), UNKNOWN);
     }
 
     private static void thing() {
@@ -360,6 +376,12 @@ public final class PromiseTests {
         due("news' weight at 1", dull.thing(2, 2), 0);
         dull.carry(3, 3);
         due("a sulk's weight", dull.thing(3, 2), 1);
+        WorseStile one = Due.with("q190,s110;2");
+        one.carry(0, 0);
+        one.carry(1, 1);
+        due("a quarrel at 1", one.thing(0, 1), 0);
+        due("a sulk at 1", one.thing(1, 1), 0);
+        due("a sulk's weight at 1", one.thing(1, 2), 0);
         WorseStile news = Due.with("n740,t000;1");
         due("news out", news.carry(0, 0), 1);
         due("news back", news.carry(0, 0), 2);
@@ -663,6 +685,16 @@ public final class PromiseTests {
         due("none is left", x.thing(0, 8), 0);
         due("none to hold against", x.thing(0, 9), NONE);
         due("what is SEEN of another one does not matter", x.thing(1, 9), 2);
+        WorseStile high = Due.with("t000,t990,t900,t991;1");
+        due("9 counts, too", high.thing(0, 9), 2);
+        high.polish(1, 9, 0);
+        due("of like ones the first", high.thing(0, 9), 1);
+        high.polish(1, 1, 0);
+        due("one of ten parted off", high.thing(0, 9), 1);
+        high.polish(1, 0, 9);
+        due("of like shine, less weight", high.thing(0, 9), 1);
+        high.see(0, 1, true);
+        due("only 0 is left", high.thing(0, 8), 1);
         WorseStile two = Due.with("t330,t990;1");
         due("not against itself", two.thing(0, 9), 1);
         due("nor this one", two.thing(1, 9), 0);
@@ -702,6 +734,41 @@ public final class PromiseTests {
             {MOST, 0, 0}, {LEAST, 0, 0}, {1, 0, MOST}, {1, 0, LEAST}};
         for (int[] asked : outside) {
             due("days outside", x.days(asked[0], asked[1], asked[2]), OUTSIDE);
+        }
+    }
+
+    // All things are alike, so each of the people carries the first one he takes, and goes round with the others.
+    private static void daysDrawPeople() {
+        WorseStile x = Due.with("t331,t330,t331,t330;4");
+        for (int start = 0; start < 2000000000; start += 52345678) {
+            int met = 0;
+            int drawn = start;
+            for (int n = 1; n <= 12; n++) {
+                drawn = nextSeed(drawn);
+                met |= 1 << (drawn / 65536 % 4);
+                drawn = nextSeed(drawn);
+                due("days(" + n + ", " + start + ", 0)", x.days(n, start, 0), Integer.bitCount(met));
+                due("days(" + n + ", " + start + ", 1)", x.days(n, start, 1), 9 * (n - Integer.bitCount(met)));
+            }
+        }
+    }
+
+    // Each thing is worse than all ahead, so he carries what was never passed yet.
+    private static void daysDrawThings() {
+        WorseStile x = Due.with("t880,t771,t660,t551,t440,t331,t220,t111;1");
+        for (int start = 0; start < 60; start++) {
+            int drawn = start * 999;
+            int often = 0;
+            int last = -1;
+            for (int day = 0; day < 10; day++) {
+                drawn = nextSeed(nextSeed(drawn));
+                int taken = drawn / 65536 % 8;
+                if (taken > last) {
+                    last = taken;
+                    often++;
+                }
+            }
+            due("days(10, " + start * 999 + ", 0)", x.days(10, start * 999, 0), often);
         }
     }
 
@@ -760,6 +827,7 @@ public final class PromiseTests {
         due("restore()", x.restore(), 1);
         due("all as it was kept", x.digest(), kept);
         due("what is seen, too", x.count(9), 1);
+        dueSeenKept();
         x.carry(0, 4);
         due("restore() again", x.restore(), 1);
         due("all as it was kept again", x.digest(), kept);
@@ -776,6 +844,21 @@ public final class PromiseTests {
         due("image() of this one", x.image(), 0);
         due("restore() of this one", x.restore(), 0);
         due("restore() does not read", x.count(11), 2);
+    }
+
+    private static void dueSeenKept() {
+        WorseStile x = Due.with("t550,t460,t650,t740;1");
+        x.see(1, 2, true);
+        x.see(0, 3, true);
+        x.image();
+        int[] could = {x.thing(0, 8), x.thing(1, 8)};
+        x.forget();
+        x.see(2, 0, true);
+        x.see(3, 1, false);
+        x.restore();
+        due("the first was seen of 1", x.thing(1, 8), could[1]);
+        due("the other of 0", x.thing(0, 8), could[0]);
+        due("none was of 2", x.thing(2, 8), 1023);
     }
 
     private static void count() {
@@ -855,6 +938,26 @@ public final class PromiseTests {
         due("digest changes nothing", x.digest(), digestOf(x, "q"));
         x.cross(2);
         due("digest behind a crossing", x.digest(), digestOf(x, "q"));
+    }
+
+    // All rows of the program are as full as they can be.
+    private static void digestOfMost() {
+        WorseStile x = Due.with("t990,l881,q770,n661,s550,t441,l330,q221;4");
+        for (int n = 0; n < 8; n++) {
+            x.see(n, 7 - n, n % 2 == 0);
+        }
+        Due.write(x, "t111,t111,t111,t111,t111,t111,t111,t111;4;;;");
+        due("a page of 44", x.count(10), 44);
+        x.carry(3, 0);
+        x.image();
+        String page = "t111,t111,t111,t111,t111,t111,t111,t111;4;;;";
+        due("digest of the most", x.digest(), digestOf(x, page));
+        x.carry(2, 2);
+        x.restore();
+        due("digest of the most, restored", x.digest(), digestOf(x, page));
+        due("fault() of 44", x.fault(), 41);
+        due("hope of the most", x.hope(4, 1) > 0 ? 1 : 0, 1);
+        due("days of the most", x.days(60, 1, 0) + x.days(60, 1, 1) / 9, 60);
     }
 
     private static void noStile() {
