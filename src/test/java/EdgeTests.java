@@ -579,7 +579,9 @@ public final class EdgeTests {
     private static void gameByTheLeast() {
         due("the first of like ones", Due.with("t990,t110,t110;1").game(1), 1);
         due("the last", Due.with("t990,t880,t770,t660,t550,t440,t330,t220;1").game(1), 7);
-        due("the first", Due.with("t000,t880;1").game(1), 0);
+        WorseStile first = Due.with("t000,t880;1");
+        due("the first", first.game(1), 0);
+        due("by the first he wins, too", first.game(0), 1);
         due("one that stands apart", Due.with("t990,t880,t090;1").game(1), 1);
         WorseStile x = Due.with("t990,t880;1");
         due("the first one wins", x.game(0), 1);
